@@ -94,7 +94,7 @@ public final class TermsTest {
             "pending = 2; tick 10 = 1; file 0 1 = 1; tick 10 = 0");
         Run.on("PUT that was stored last gets STORED again, and its own version", 2, 1, 10, 9).due(
             "write 0 0 5 = 2; retry 0 = 1; deliver 0 = 1; lose 1 = 1; write 1 0 6 = 2; deliver 1 = 1; deliver 1 = 3; file 0 1 = 2",
-            "deliver 0 = 1; pending = 1; message 0 0 = 3; message 0 1 = 0; message 0 2 = 0; message 0 3 = 1; message 0 4 = 1; message 0 5 = 0",
+            "deliver 0 = 1; pending = 1; message 0 0 = 3; message 0 1 = 0; message 0 2 = 0; message 0 3 = 1; message 0 4 = 1; message 0 5 = 0; message 0 6 = 0",
             "deliver 0 = 3; result 0 = 1; version 0 = 1; file 0 0 = 6; file 0 1 = 2");
         Run.on("PUT that is older than the last one stored does nothing", 1, 2, 10, 9).due(
             "write 0 0 5 = 2; crash 0 = 0; write 0 1 6 = 2; deliver 1 = 1; deliver 1 = 3; deliver 0 = 1; pending = 0; file 0 1 = 0; file 0 2 = 0");
