@@ -9,13 +9,16 @@ public final class AnyCallsTest {
     private static final int[] NUMBERS_TAKEN = {2, 3, 1, 1, 1, 1, 1, 1, 0, 2, 1, 2, 1, 0, 0, 3, 2, 2, 1, 2};
     private static final int[] ODD_NUMBERS = {
         -1, 4, 5, 7, 63, 64, 65, 1000, 1001, Integer.MAX_VALUE, Integer.MIN_VALUE, Integer.MIN_VALUE + 1};
-    private static final int CALLS = 512;
+    // What is asked at the end of a run takes calls too: with these two it is less than an object has.
+    private static final int CALLS_BEFORE = 150;
+    private static final int MESSAGES_AT_THE_END = 35;
+    private static final int MOST_CALLS_A_STEP = 5;
 
     public static void main(String[] args) {
-        for (int seed = 0; seed < 200; seed++) {
+        for (int seed = 0; seed < 10000; seed++) {
             anyArguments(new Random(seed), seed);
         }
-        for (int seed = 0; seed < 2000; seed++) {
+        for (int seed = 0; seed < 10000; seed++) {
             copiesAreNeverStale(new Random(seed), seed);
         }
         aLongLife();
@@ -28,26 +31,36 @@ public final class AnyCallsTest {
         int files = random.nextInt(6);
         LeasedFiles x = new LeasedFiles(clients, files, 20, 15);
         LeasedFiles twin = new LeasedFiles(clients, files, 20, 15);
-        for (int i = 0; i < CALLS; i++) {
+        int before = random.nextInt(CALLS_BEFORE);
+        for (int i = 0; i < before; i++) {
             int which = random.nextInt(NAMES.length);
-            Object[] numbers = new Object[NUMBERS_TAKEN[which]];
-            for (int n = 0; n < numbers.length; n++) {
-                numbers[n] = random.nextInt(8) == 0 ? ODD_NUMBERS[random.nextInt(ODD_NUMBERS.length)] : random.nextInt(4);
-            }
-            String name = NAMES[which];
-            List<Integer> before = Run.everything(x);
-            int answer = Run.call(x, name, numbers);
-            boolean changed = !before.equals(Run.everything(x));
-            if (changed && (answer == LeasedFiles.NONE || onlyTells(name) || refuses(name, answer))) {
-                Run.fail("seed " + seed + ", call " + i + ": " + name + " answered " + answer + ", but changed something");
-            }
-            if (Run.call(twin, name, numbers) != answer) {
-                Run.fail("seed " + seed + ", call " + i + ": " + name + " does not answer the same twice");
-            }
-            if (x.pending() < 0 || x.pending() > 64) {
-                Run.fail("seed " + seed + ", call " + i + ": " + x.pending() + " messages");
+            Object[] numbers = anyNumbers(random, NUMBERS_TAKEN[which]);
+            if (Run.call(x, NAMES[which], numbers) != Run.call(twin, NAMES[which], numbers)) {
+                Run.fail("seed " + seed + ", call " + i + ": " + NAMES[which] + " does not answer the same twice");
             }
         }
+        if (x.pending() <= MESSAGES_AT_THE_END) {
+            refusedChangesNothing(x, twin, random, seed);
+        }
+    }
+
+    /** Both objects have the same calls behind them; only the first gets one more. */
+    private static void refusedChangesNothing(LeasedFiles x, LeasedFiles twin, Random random, int seed) {
+        int which = random.nextInt(NAMES.length);
+        String name = NAMES[which];
+        int answer = Run.call(x, name, anyNumbers(random, NUMBERS_TAKEN[which]));
+        boolean mayChange = answer != LeasedFiles.NONE && !onlyTells(name) && !refuses(name, answer);
+        if (!mayChange && !Run.everything(x).equals(Run.everything(twin))) {
+            Run.fail("seed " + seed + ", the last call: " + name + " answered " + answer + ", but changed something");
+        }
+    }
+
+    private static Object[] anyNumbers(Random random, int count) {
+        Object[] numbers = new Object[count];
+        for (int n = 0; n < count; n++) {
+            numbers[n] = random.nextInt(8) == 0 ? ODD_NUMBERS[random.nextInt(ODD_NUMBERS.length)] : random.nextInt(4);
+        }
+        return numbers;
     }
 
     private static boolean onlyTells(String name) {
@@ -63,13 +76,13 @@ public final class AnyCallsTest {
     private static void copiesAreNeverStale(Random random, int seed) {
         int term = 1 + random.nextInt(12);
         LeasedFiles x = new LeasedFiles(3, 2, term, 1 + random.nextInt(term));
-        for (int i = 0; i < CALLS; i++) {
+        for (int i = 0; i < Run.MOST_CALLS / MOST_CALLS_A_STEP; i++) {
             int c = random.nextInt(3);
             int f = random.nextInt(2);
             switch (random.nextInt(14)) {
                 case 0: case 1: case 2:
                     if (x.read(c, f) == 1 && (x.version(c) != x.file(f, 1) || x.result(c) != x.file(f, 0))) {
-                        Run.fail("seed " + seed + ", call " + i + ": a read at once got version " + x.version(c) + " of " + x.file(f, 1));
+                        Run.fail("seed " + seed + ", step " + i + ": a read at once got version " + x.version(c) + " of " + x.file(f, 1));
                     }
                     break;
                 case 3: x.write(c, f, random.nextInt()); break;

@@ -6,19 +6,29 @@ import java.util.List;
 
 /** A run of calls on a fresh object, told as texts such as "read 0 1 = 2" (a boolean counts 1 or 0). */
 final class Run {
+    /** What an object answers after these is free, so no run may rest on it. */
+    static final int MOST_CALLS = 512;
+
     private static int wrong = 0;
 
     private final String title;
+    private final int[] made;
     private final LeasedFiles files;
-    private int calls = 0;
+    private final List<String> calls = new ArrayList<>();
 
-    private Run(String title, LeasedFiles files) {
+    private Run(String title, int... made) {
         this.title = title;
-        this.files = files;
+        this.made = made;
+        this.files = fresh();
     }
 
     static Run on(String title, int clients, int files, int term, int shorter) {
-        return new Run(title, new LeasedFiles(clients, files, term, shorter));
+        return new Run(title, clients, files, term, shorter);
+    }
+
+    /** For a sentence of the document, and the edge of it that the run goes to. */
+    static Run on(String sentence, String edge, int clients, int files, int term, int shorter) {
+        return new Run('"' + sentence + "\", " + edge, clients, files, term, shorter);
     }
 
     Run due(String... lines) {
@@ -37,17 +47,80 @@ final class Run {
         return this;
     }
 
-    private void dueOne(String call) {
-        calls++;
-        String[] sides = call.split("=");
+    /** The client reads the file and gets a copy of it, with a lease; the pool is empty before and after. */
+    Run copyFor(int c, int f) {
+        return due("read " + c + " " + f + " = 2; deliver 0 = 0; message 0 6 = 1; deliver 0 = 2; pending = 0");
+    }
+
+    /** The client writes the file, which nobody has a lease of; the pool is empty before and after. */
+    Run storedBy(int c, int f, int value) {
+        return due("write " + c + " " + f + " " + value + " = 2; deliver 0 = 1; deliver 0 = 3; pending = 0");
+    }
+
+    /**
+     * Much is under way, with two clients, two files and a term of 10: a copy, leases, a write and a spoiled
+     * read that wait, GIVEN and FREE in the pool, an epoch, a grace, and clocks that do not show the same.
+     */
+    Run busy() {
+        return due("halt = 0; restart = 1").copyFor(0, 0)
+            .due("pass 0 3 = 3; tick 4 = 0; read 1 1 = 2; deliver 0 = 0; write 0 1 7 = 2; deliver 1 = 1; deliver 1 = 4; pending = 2");
+    }
+
+    /** The calls answer as due, and nothing that can be asked for is another after them. */
+    Run refused(String... lines) {
+        try {
+            List<Integer> before = everything(again());
+            due(lines);
+            if (!everything(again()).equals(before)) {
+                fail(title + ": after call " + calls.size() + ", " + Arrays.toString(lines) + " changed something");
+            }
+        } catch (RuntimeException e) {
+            fail(title + ": after call " + calls.size() + ", " + e);
+        }
+        return this;
+    }
+
+    /** The same call is refused with each number in the place of # that is not 0 .. count - 1. */
+    Run refusedBeyond(int count, String call) {
+        for (int n : new int[] {-1, count, count + 1, Integer.MIN_VALUE, Integer.MAX_VALUE}) {
+            refused(call.replace("#", String.valueOf(n)));
+        }
+        return this;
+    }
+
+    private LeasedFiles fresh() {
+        return new LeasedFiles(made[0], made[1], made[2], made[3]);
+    }
+
+    /** Another object, with the same calls behind it: to ask it everything takes no call from this one. */
+    private LeasedFiles again() {
+        LeasedFiles twin = fresh();
+        for (String call : calls) {
+            answer(twin, call);
+        }
+        return twin;
+    }
+
+    private void dueOne(String told) {
+        String[] sides = told.split("=");
+        String call = sides[0].trim();
         int want = Integer.parseInt(sides[1].trim());
-        int got = answer(files, sides[0].trim().split(" +"));
-        if (got != want) {
-            fail(title + ": call " + calls + ", " + sides[0].trim() + " answered " + got + ", due is " + want);
+        calls.add(call);
+        try {
+            int got = answer(files, call);
+            if (got != want) {
+                fail(title + ": call " + calls.size() + ", " + call + " answered " + got + ", due is " + want);
+            }
+        } catch (IllegalStateException e) {
+            fail(title + ": call " + calls.size() + ", " + e.getMessage() + " " + e.getCause());
+        }
+        if (calls.size() > MOST_CALLS) {
+            fail(title + ": call " + calls.size() + " is one too many");
         }
     }
 
-    private static int answer(LeasedFiles files, String[] words) {
+    private static int answer(LeasedFiles files, String call) {
+        String[] words = call.split(" +");
         Object[] numbers = new Object[words.length - 1];
         for (int i = 0; i < numbers.length; i++) {
             numbers[i] = Integer.valueOf(words[i + 1]);
@@ -72,8 +145,9 @@ final class Run {
     /** Every answer that a call can give without changing anything. */
     static List<Integer> everything(LeasedFiles x) {
         List<Integer> seen = new ArrayList<>();
-        seen.add(x.pending());
-        for (int k = 0; k < x.pending(); k++) {
+        int pending = x.pending();
+        seen.add(pending);
+        for (int k = 0; k < pending; k++) {
             for (int what = 0; what <= 6; what++) {
                 seen.add(x.message(k, what));
             }
